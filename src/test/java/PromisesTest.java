@@ -61,6 +61,7 @@ public final class PromisesTest {
         writeAccounts();
         writtenByte();
         undo();
+        clocksBehindEachChange();
         undoOfEachChange();
         noUndoOfOtherCalls();
         c.close("PromisesTest");
@@ -182,6 +183,13 @@ public final class PromisesTest {
         c.due(text + ": at " + position, text + ": at " + x.errorPosition());
     }
 
+    private static void prefix(int code, int position, String text, int length) {
+        QuotaTree x = new QuotaTree();
+        Checks.put(x, text);
+        c.due(code, x.load(length));
+        c.due(position, x.errorPosition());
+    }
+
     private static void fine(String text) {
         QuotaTree x = new QuotaTree();
         int files = Checks.load(x, text);
@@ -191,6 +199,7 @@ public final class PromisesTest {
     private static void loadTokens() {
         c.begin("section 6, tokens");
         fine("");
+        fine("tag root 7; limit 7 0 0 0 0; grace 1;");
         fine("     ");
         fine("grace5;limit1 2 3 4 5;folder a root;tag a1;file a00000000000000000000000000007;");
         fine("  grace  000000000000000000000000000000000000099 ;  folder grace root;"
@@ -235,6 +244,13 @@ public final class PromisesTest {
         error(SYNTAX, 11, "file root 1\t;");
         error(SYNTAX, 0, "\u00e9");
         error(SYNTAX, 8, "grace 5;\n");
+        // what stands behind the length is not read
+        prefix(SYNTAX, 7, "grace 5;", 7);
+        prefix(SYNTAX, 7, "grace 55;", 7);
+        prefix(SYNTAX, 0, "grace 5;", 4);
+        prefix(VALUE, 9, "folder a root;", 12);
+        prefix(VALUE, 9, "folder a a root;", 10);
+        prefix(SYNTAX, 7, "folder       a root;", 7);
     }
 
     private static void loadValues() {
@@ -1265,6 +1281,53 @@ public final class PromisesTest {
         long make(QuotaTree tree);
     }
 
+    private static void clocksBehindEachChange() {
+        c.begin("section 3, clocks");
+        String text = "grace 4; limit 1 10 0 1 0; limit 2 50 0 9 0; folder a root; folder b root; folder d root;"
+                + "tag a 1; tag b 2; file a 4; file b 7; file d 8;";
+        QuotaTree x = Checks.tree(text);
+        x.tick(3);
+        c.due(1, x.moveFile(2, 1));
+        clocks(x, 4, 4);
+        x.tick(1);
+        c.due(1, x.moveFile(2, 3));
+        clocks(x, NONE, NONE);
+        c.due(1, x.moveFolder(3, 1));
+        clocks(x, 4, 4);
+        x.tick(1);
+        c.due(1, x.moveFolder(3, 0));
+        clocks(x, NONE, NONE);
+        c.due(1, x.tag(3, 1));
+        clocks(x, 4, 4);
+        x.tag(3, NONE);
+        clocks(x, NONE, NONE);
+        c.due(1, x.tag(2, 1));
+        clocks(x, 4, 4);
+        x.tick(1);
+        c.due(1, x.tag(2, 2));
+        clocks(x, NONE, NONE);
+        c.due(3, x.write(1, 6));
+        clocks(x, NONE, 4);
+        x.tick(1);
+        x.resize(3, 7);
+        clocks(x, 4, 3);
+        x.delete(0);
+        clocks(x, NONE, NONE);
+        x.adjust(1, 0, 4);
+        clocks(x, 4, NONE);
+        x.repair();
+        clocks(x, NONE, NONE);
+        x.setLimit(1, 0, 1, 0);
+        clocks(x, 4, NONE);
+        x.setLimit(1, 0, 0, 0);
+        clocks(x, NONE, NONE);
+    }
+
+    private static void clocks(QuotaTree x, int blocks, int files) {
+        c.due(blocks, x.graceLeft(1, 0));
+        c.due(files, x.graceLeft(1, 1));
+    }
+
     private static void undoOfEachChange() {
         c.begin("promise 42, each change");
         Change[] changes = {
@@ -1277,10 +1340,13 @@ public final class PromisesTest {
         for (int i = 0; i < changes.length; i++) {
             c.begin("promise 42, change " + i);
             QuotaTree x = Checks.tree(HOMES + "folder empty root;");
+            x.setLimit(3, 0, 0, 600);
             x.gift(2, 1, 7, 2);
+            x.gift(1, 3, 4, 3);
+            x.gift(3, 2, 2, 1);
             String before = Observed.of(x);
             changes[i].make(x);
-            c.due(2, x.undo());
+            c.due(5, x.undo());
             c.due(before, Observed.of(x));
         }
     }
