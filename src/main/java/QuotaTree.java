@@ -492,7 +492,7 @@ public final class QuotaTree {
 
     // ---- what the calls share
 
-    /** Every change calls this when nothing can refuse it any more, and before it touches anything. */
+    /** For each change: when nothing can refuse it any more, before it touches anything. */
     private void remember() {
         State oldest = past[Math.floorMod(changes, MOST_CHANGES)];
         if (oldest != null) {
@@ -731,7 +731,7 @@ public final class QuotaTree {
             return number > 0 && isGraceOver(project, FILES) ? 4 : 0;
         }
 
-        /** The greatest size that the blocks alone allow; a file without blocks never fails by them. */
+        /** The greatest size that the blocks alone allow; they always allow none. */
         int roomOf(int project) {
             if (project == NONE) {
                 return MOST_BLOCKS;
@@ -1118,26 +1118,20 @@ public final class QuotaTree {
             System.arraycopy(other.clock, 0, clock, 0, ACCOUNTS);
         }
 
-        private static boolean has(int account) {
-            return account >= 0 && account < ACCOUNTS;
-        }
-
         int amountOf(int account) {
-            return has(account) ? amount[account] : 0;
+            return account >= 0 && account < ACCOUNTS ? amount[account] : 0;
         }
 
         void setAmount(int account, int number) {
-            if (has(account)) {
+            if (account >= 0 && account < ACCOUNTS) {
                 amount[account] = number;
             }
         }
 
         /** 0 if there is no such limit. */
         int limitOf(int account, boolean ofHard) {
-            if (!has(account)) {
-                return 0;
-            }
-            return ofHard ? hard[account] : soft[account];
+            int[] limits = ofHard ? hard : soft;
+            return account >= 0 && account < ACCOUNTS ? limits[account] : 0;
         }
 
         boolean hasLimit(int account) {
@@ -1145,7 +1139,7 @@ public final class QuotaTree {
         }
 
         void setLimits(int account, int newSoft, int newHard) {
-            if (has(account)) {
+            if (account >= 0 && account < ACCOUNTS) {
                 soft[account] = newSoft;
                 hard[account] = newHard;
             }
@@ -1153,11 +1147,11 @@ public final class QuotaTree {
 
         /** The time at which the clock began, NONE if it does not run. */
         int clockOf(int account) {
-            return has(account) ? clock[account] : NONE;
+            return account >= 0 && account < ACCOUNTS ? clock[account] : NONE;
         }
 
         void setClock(int account, int began) {
-            if (has(account)) {
+            if (account >= 0 && account < ACCOUNTS) {
                 clock[account] = began;
             }
         }
