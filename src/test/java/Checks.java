@@ -33,6 +33,10 @@ final class Checks {
         }
     }
 
+    void due(boolean due, boolean got) {
+        due(Boolean.toString(due), Boolean.toString(got));
+    }
+
     void index(Call call) {
         due("throws.IndexOutOfBoundsException", answer(call));
     }

@@ -1,14 +1,18 @@
 import java.util.ArrayList;
 import java.util.Arrays;
+import java.util.Collections;
 import java.util.List;
 import java.util.Random;
 
-/** Runs of calls with a fixed seed, each answered by the class and by the model alike. */
+/**
+ * Runs of calls with a fixed seed, each answered by the class and by the model alike. An object gets
+ * no more calls than the document allows it.
+ */
 public final class ModelTest {
 
-    private static final int RUNS = 700;
+    private static final int RUNS = 4000;
     private static final int CALLS = 512;
-    /** Changes stand here more often than questions, which Observed asks all together. */
+    /** Changes stand here more often than questions, of which Observed asks some behind each change. */
     private static final String[] NAMES = {
         "write", "write", "write", "write", "write", "resize", "resize", "resize", "delete",
         "moveFile", "moveFile", "moveFolder", "moveFolder", "tag", "tag", "addFolder", "addFolder",
@@ -21,10 +25,10 @@ public final class ModelTest {
         999, 1000, 9999, 10000, 99999, 100000, 999999, Integer.MAX_VALUE};
 
     private final Random random;
-    private final QuotaTree tree = new QuotaTree();
-    private final Caller real = Caller.of(tree);
+    private final Caller real = Caller.of(new QuotaTree());
     private final Caller model = new Model();
     private final List<String> told = new ArrayList<>();
+    private int calls;
 
     private ModelTest(int seed) {
         random = new Random(seed);
@@ -46,38 +50,47 @@ public final class ModelTest {
         checks.close("ModelTest");
     }
 
+    /** Some steps, then questions with all the calls that are left. */
     private String fault() {
         String fault = random.nextInt(4) > 0 ? loadText(richText(), 0) : "";
-        for (int i = 0; i < CALLS && fault.isEmpty(); i++) {
+        int steps = 40 + random.nextInt(CALLS);
+        while (calls < steps && calls < CALLS && fault.isEmpty()) {
             fault = step();
-            if (fault.isEmpty() && i % 16 == 15) {
-                fault = observed();
-            }
+        }
+        return fault.isEmpty() ? observed(CALLS) : fault;
+    }
+
+    private String observed(int howMany) {
+        List<Observed.Question> questions = Observed.questions(model);
+        Collections.shuffle(questions, random);
+        String fault = "";
+        for (int i = 0; i < howMany && i < questions.size() && fault.isEmpty(); i++) {
+            fault = both(questions.get(i).name(), questions.get(i).arguments());
         }
         return fault;
     }
 
-    private String observed() {
-        return differing("all", Observed.of(model), Observed.of(real));
-    }
-
     private String step() {
         String name = NAMES[random.nextInt(NAMES.length)];
+        String fault = "";
         if (name.equals("load")) {
-            return random.nextInt(3) > 0 ? "" : loadText(text(random.nextInt(40), random.nextInt(3)), some(3) / 2 * some(9));
+            return random.nextInt(9) > 0 ? "" : loadText(text(random.nextInt(40), random.nextInt(3)), some(3) / 2 * some(9));
         }
         if (name.equals("undo") && random.nextInt(4) == 0) {
-            String fault = "";
             for (int i = random.nextInt(10); i >= 0 && fault.isEmpty(); i--) {
                 fault = both("undo");
             }
-            return fault.isEmpty() ? observed() : fault;
+            return fault.isEmpty() ? observed(20) : fault;
         }
-        long[] arguments = arguments(name);
-        return both(name, arguments);
+        fault = both(name, arguments(name));
+        return fault.isEmpty() && some(4) == 0 ? observed(4) : fault;
     }
 
     private String both(String name, long... arguments) {
+        if (calls == CALLS) {
+            return "";
+        }
+        calls++;
         told.add(name + Arrays.toString(arguments));
         return differing(name, Checks.answer(() -> model.call(name, arguments)),
                 Checks.answer(() -> real.call(name, arguments)));
@@ -87,16 +100,20 @@ public final class ModelTest {
         return due.equals(got) ? "" : what + ": due is " + due + ", answered " + got;
     }
 
+    private int there(int what) {
+        return (int) model.call("count", what);
+    }
+
     private int some(int bound) {
         return bound > 0 ? random.nextInt(bound) : 0;
     }
 
     private long folder() {
-        return some(30) == 0 ? tree.count(0) : some(tree.count(0));
+        return some(30) == 0 ? there(0) : some(there(0));
     }
 
     private long file() {
-        return some(30) == 0 ? tree.count(1) : some(tree.count(1));
+        return some(30) == 0 ? there(1) : some(there(1));
     }
 
     private long project() {
@@ -154,8 +171,8 @@ public final class ModelTest {
             case "gift":
                 long giver = some(3);
                 return new long[] {giver, some(9) == 0 ? project() : (giver + 1 + some(2)) % 3, some(9) == 0 ? some(9999) + 1 : some(60) + 1, ticks()};
-            case "giftOf": return new long[] {some(tree.count(5) + 1), some(4)};
-            case "endGift": return new long[] {some(tree.count(5) + 1)};
+            case "giftOf": return new long[] {some(there(5) + 1), some(4)};
+            case "endGift": return new long[] {some(there(5) + 1)};
             case "adjust": return new long[] {project(), some(2), some(5) == 0 ? some(19999) - 9999 : some(60) - 30};
             case "writtenByte": return new long[] {some(25)};
             case "errorPosition": case "nextEvent": case "repair": case "undo": return new long[0];
@@ -166,7 +183,7 @@ public final class ModelTest {
     private long[] limits() {
         long project = project();
         int kind = some(2);
-        int used = (int) project < 8 ? tree.used((int) project, kind) : 0;
+        int used = (int) model.call("used", project, kind);
         int soft = some(4) == 0 ? 0 : Math.min(99999, Math.max(0, used + some(60) - 20));
         int hard = some(4) == 0 ? 0 : Math.min(99999, soft + some(kind == 0 ? 300 : 10) - some(4));
         return new long[] {project, kind, soft, Math.max(0, hard)};

@@ -1339,16 +1339,21 @@ public final class PromisesTest {
             x -> x.tick(1), x -> x.adjust(1, 0, 1), x -> x.adjust(1, 0, 0), x -> x.repair()};
         for (int i = 0; i < changes.length; i++) {
             c.begin("promise 42, change " + i);
-            QuotaTree x = Checks.tree(HOMES + "folder empty root;");
-            x.setLimit(3, 0, 0, 600);
-            x.gift(2, 1, 7, 2);
-            x.gift(1, 3, 4, 3);
-            x.gift(3, 2, 2, 1);
-            String before = Observed.of(x);
+            String before = Observed.of(withGifts());
+            QuotaTree x = withGifts();
             changes[i].make(x);
             c.due(5, x.undo());
             c.due(before, Observed.of(x));
         }
+    }
+
+    private static QuotaTree withGifts() {
+        QuotaTree x = Checks.tree(HOMES + "folder empty root;");
+        x.setLimit(3, 0, 0, 600);
+        x.gift(2, 1, 7, 2);
+        x.gift(1, 3, 4, 3);
+        x.gift(3, 2, 2, 1);
+        return x;
     }
 
     private static void noUndoOfOtherCalls() {
