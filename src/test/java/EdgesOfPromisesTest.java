@@ -1148,6 +1148,12 @@ public final class EdgesOfPromisesTest {
             x.adjust(3, 1, 1);
             c.element(() -> x.greatest(3));
         });
+        e.edge(none, "an account that tells of none", () -> {
+            QuotaTree x = homes();
+            x.adjust(2, 0, -120);
+            x.adjust(2, 1, -1);
+            c.due(3, x.greatest(2));
+        });
         e.edge(none, "its last file is gone", () -> {
             QuotaTree x = homes();
             x.delete(3);
@@ -1832,6 +1838,10 @@ public final class EdgesOfPromisesTest {
             x.adjust(4, 0, 99);
             x.write(0, 0);
             written(x, 4, "4: 999999/99999! 2/1000");
+            x.setLimit(4, 0, 0, 0);
+            x.write(0, 9999);
+            written(x, 4, "4: 1009998/- 3/1000");
+            x.delete(2);
             x.repair();
             x.resize(0, 1);
             x.setLimit(4, 0, 0, 10010);

@@ -279,6 +279,20 @@ public final class EdgesOfSectionsTest {
             account(x, 1, 112, 2);
             account(x, 2, 0, 10);
         });
+        e.edge(changes, "above what adjust can reach", () -> {
+            QuotaTree x = tree("tag root 1;");
+            for (int i = 0; i < 100; i++) {
+                x.adjust(1, 0, 9999);
+                x.adjust(1, 1, 9999);
+            }
+            x.adjust(1, 0, 99);
+            x.adjust(1, 1, 99);
+            account(x, 1, 999999, 999999);
+            x.write(0, 9999);
+            account(x, 1, 1009998, 1000000);
+            x.delete(0);
+            account(x, 1, 999999, 999999);
+        });
         e.edge(changes, "a change to the same folder, size or tag", () -> {
             QuotaTree x = tree(THREE + "file a 5;");
             x.resize(0, 5);
